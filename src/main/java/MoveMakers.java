@@ -143,7 +143,7 @@ public final class MoveMakers {
         if (!sources.has(source)) {
             return UNKNOWN;
         }
-        return n < 0 ? OUTSIDE : finder.draw(source, n);
+        return n < 0 ? OUTSIDE : drawFrom(source, n, 0);
     }
 
     public int does(int source, int m) {
@@ -259,6 +259,36 @@ public final class MoveMakers {
             default:
                 return !within(sort, CHANGE, OWN);
         }
+    }
+
+    private int drawFrom(int source, long n, int depth) {
+        if (depth > MOST_DEEP) {
+            return NONE;
+        }
+        if (sources.sortOf(source) == JOINED) {
+            return drawJoined(source, n, depth);
+        }
+        int moves = finder.tally(source);
+        return moves <= 0 ? NONE : (int) (n % moves);
+    }
+
+    private int drawJoined(int source, long n, int depth) {
+        int a = sources.aOf(source);
+        int b = sources.bOf(source);
+        int ahead = finder.tally(a);
+        if (ahead == 0) {
+            return drawFrom(b, n, depth + 1);
+        }
+        if (finder.tally(b) == 0) {
+            return drawFrom(a, n, depth + 1);
+        }
+        int p = sources.pOf(source);
+        int parts = Math.max(1, p + sources.qOf(source));
+        if (n % parts < p) {
+            return drawFrom(a, n / parts, depth + 1);
+        }
+        int behind = drawFrom(b, n / parts, depth + 1);
+        return behind == NONE ? NONE : ahead + behind;
     }
 
     /** Does the MOVE that the finder holds, and keeps it unless it throws. */
@@ -538,22 +568,18 @@ public final class MoveMakers {
                 if (o != object && !pinned[o]) {
                     int dx = xs[o] - xs[object];
                     int dy = ys[o] - ys[object];
-                    sortIn(ranked, (dx * dx + dy * dy) * MOST_OBJECTS + o);
+                    // the number breaks ties, and stays readable as what is left over
+                    int key = (dx * dx + dy * dy) * MOST_OBJECTS + o;
+                    int at = ranked;
+                    while (at > 0 && ranks[at - 1] > key) {
+                        ranks[at] = ranks[at - 1];
+                        at--;
+                    }
+                    ranks[at] = key;
                     ranked++;
                 }
             }
             return ranked;
-        }
-
-        private void sortIn(int ranked, int key) {
-            int at = ranked;
-            while (at > 0 && at < MOST_OBJECTS && ranks[at - 1] > key) {
-                ranks[at] = ranks[at - 1];
-                at--;
-            }
-            if (at >= 0 && at < MOST_OBJECTS) {
-                ranks[at] = key;
-            }
         }
 
         int rankedAt(int rank) {
@@ -702,40 +728,6 @@ public final class MoveMakers {
             seen = 0;
             walk(source, ALL_RESIDUES, 0);
             return m < seen;
-        }
-
-        int draw(int source, long n) {
-            return drawDeep(source, n, 0);
-        }
-
-        private int drawDeep(int source, long n, int depth) {
-            if (depth > MOST_DEEP) {
-                return NONE;
-            }
-            if (sources.sortOf(source) == JOINED) {
-                return drawJoined(source, n, depth);
-            }
-            int moves = tally(source);
-            return moves <= 0 ? NONE : (int) (n % moves);
-        }
-
-        private int drawJoined(int source, long n, int depth) {
-            int a = sources.aOf(source);
-            int b = sources.bOf(source);
-            int ahead = tally(a);
-            if (ahead == 0) {
-                return drawDeep(b, n, depth + 1);
-            }
-            if (tally(b) == 0) {
-                return drawDeep(a, n, depth + 1);
-            }
-            int p = sources.pOf(source);
-            int parts = Math.max(1, p + sources.qOf(source));
-            if (n % parts < p) {
-                return drawDeep(a, n / parts, depth + 1);
-            }
-            int behind = drawDeep(b, n / parts, depth + 1);
-            return behind == NONE ? NONE : ahead + behind;
         }
 
         private void walk(int source, int passing, int depth) {
