@@ -121,6 +121,9 @@ public final class DoingTest {
         x = listsAnd(4, 0, 0);
         doOne("reverse", x, 1, 4);
         list("reverse", x, 0, 0, 4, 3, 2, 1);
+        x = listsAnd(4, 0, 0);
+        doOne("reverse all", x, 0, 4);
+        list("reverse all", x, 0, 4, 3, 2, 1, 0);
         x = listsAnd(5, 0, 1);
         doOne("cross", x, 3, 1);
         list("cross, a", x, 0, 0, 1, 2, 6, 7);

@@ -21,6 +21,8 @@ public final class SourcesTest {
         owns();
         joinedAndFiltered();
         movesAreAsThingsAreThen();
+        sixteenObjects();
+        nothingIsLeftOfWhatWasCleared();
         drawn();
         drawnDeep();
         due.end();
@@ -181,6 +183,11 @@ public final class SourcesTest {
         moves("pillar", x, 0, 2, "0,1 0,2 0,3 0,4 0,5 2,0 2,1 2,3 2,4 2,5 4,0 4,1 4,2 4,3 4,5");
         x.pin(2, true);
         moves("pillar, one of it pinned", x, 0, 2, "0,1 0,2 0,3 0,4 0,5 2,0 2,1 2,3 2,4 2,5");
+        MoveMakers one = withValues(5, 0);
+        one.source(2, 0, 0);
+        moves("pillar of 5", one, 0, 2, "0,1 0,2 0,3 0,4 0,5 5,0 5,1 5,2 5,3 5,4");
+        one.pin(0, true);
+        moves("pillar, object 0 pinned", one, 0, 2, "0,1 0,2 0,3 0,4 0,5");
     }
 
     private static void insertsWithin() {
@@ -192,6 +199,9 @@ public final class SourcesTest {
         x.pin(1, false);
         x.pin(3, true);
         moves("insert within, the last pinned", x, 0, 3, "0,1 0,2 1,0 1,2 2,0 2,1");
+        x.pin(3, false);
+        x.pin(0, true);
+        moves("insert within, the first pinned", x, 0, 3, "1,2 1,3 2,1 2,3 3,1 3,2");
     }
 
     private static void insertsBetween() {
@@ -325,6 +335,55 @@ public final class SourcesTest {
         due.is("behind undo", x.many(0), 2);
     }
 
+    private static void sixteenObjects() {
+        MoveMakers x = withLists(16);
+        int[][] sources = {{0, 0, 0}, {1, 0, 0}, {2, 0, 0}, {3, 0, 0}, {3, 0, 1}, {3, 1, 0}, {4, 0, 0}, {5, 0, 1},
+            {6, 0, 0}, {7, 15, 0}, {10, 3, 0}, {8, 0, 3}};
+        int[] alike = {80, 0, 5, 240, 16, 0, 120, 16, 15, 0, 16, 320};
+        for (int[] s : sources) {
+            x.source(s[0], s[1], s[2]);
+        }
+        for (int s = 0; s < 12; s++) {
+            due.is("sixteen alike, source " + s, x.many(s), alike[s]);
+        }
+        x.does(0, 79);
+        due.is("one unlike, swaps", x.many(1), 15);
+        due.is("one unlike, pillars", x.many(2), 10);
+        due.is("one unlike, near", x.many(9), 30);
+        due.is("all of them crossed", x.does(7, 0), 2);
+        due.is("the last of the other list", x.listed(1, 15), 15);
+        due.is("crossed back", x.many(7), 16);
+        due.is("near, the last one", x.does(9, x.many(9) - 1), 3);
+        due.is("its value went", x.objectAt(15, 0), 0);
+        due.is("to the last of the others", x.objectAt(14, 0), 5);
+        due.is("all of value 0", x.does(2, 0), 4);
+        due.is("the last of them", x.objectAt(15, 0), 1);
+        due.is("crossed once more", x.does(7, 0), 5);
+        due.is("reversed", x.does(6, 14), 6);
+        due.is("the last comes first", x.listed(0, 0), 15);
+        due.is("turned", x.does(8, 14), 7);
+        due.is("the last comes first again", x.listed(0, 0), 0);
+    }
+
+    private static void nothingIsLeftOfWhatWasCleared() {
+        MoveMakers x = withLists(8, 8);
+        for (int o = 0; o < 16; o++) {
+            x.pin(o, true);
+        }
+        x.clear();
+        x.object(1, 0, 0);
+        x.object(2, 9, 9);
+        x.enlist(1, 0);
+        x.enlist(0, 0);
+        int[][] sources = {{0, 0, 0}, {1, 0, 0}, {2, 0, 0}, {3, 0, 0}, {3, 0, 1}, {4, 0, 0}, {5, 0, 1}, {6, 0, 0},
+            {7, 15, 0}, {10, 0, 0}};
+        int[] want = {10, 1, 10, 2, 2, 1, 2, 1, 2, 2};
+        for (int s = 0; s < want.length; s++) {
+            x.source(sources[s][0], sources[s][1], sources[s][2]);
+            due.is("behind clear, source " + s, x.many(s), want[s]);
+        }
+    }
+
     private static void drawn() {
         MoveMakers x = withValues(0, 1);
         x.source(0, 0, 0);
@@ -376,6 +435,18 @@ public final class SourcesTest {
             int r = n / 4;
             int inner = r % 3 < 1 ? 0 : 1 + r / 3 % 5;
             due.is("joined of joined " + n, x.drawn(3, n), n % 4 < 3 ? inner : 6 + inner);
+        }
+        // three deep on either side, and past sources that have none
+        x.source(8, 3, 0);
+        x.source(8, 0, 3);
+        x.source(1, 0, 0);
+        x.source(8, 6, 2);
+        x.source(8, 7, 6);
+        for (int n = 0; n < 60; n++) {
+            int inner = x.drawn(3, n / 2);
+            due.is("three deep, a: " + n, x.drawn(4, n), n % 2 == 0 ? inner : 12);
+            due.is("three deep, b: " + n, x.drawn(5, n), n % 2 == 0 ? 0 : 1 + inner);
+            due.is("past none: " + n, x.drawn(8, n), x.drawn(2, n));
         }
     }
 }
