@@ -338,7 +338,7 @@ public final class MoveMakers {
 
     /**
      * The OBJECTS and LISTS. An OBJECT knows its LIST and place, and a LIST is nothing but that: so the order
-     * can't disagree with the OBJECTS, and no index is ever read out of another row.
+     * can't disagree with the OBJECTS, and the MOVES of LISTS need no index that is read out of a row.
      */
     private static final class Plan {
         private final int[] values;
