@@ -18,14 +18,6 @@ public final class DoingTest {
         due.end();
     }
 
-    private static MoveMakers withValues(int... values) {
-        MoveMakers x = new MoveMakers();
-        for (int value : values) {
-            x.object(value, 0, 0);
-        }
-        return x;
-    }
-
     private static void values(String what, MoveMakers x, int... want) {
         for (int o = 0; o < want.length; o++) {
             due.is(what + ": value of " + o, x.objectAt(o, 0), want[o]);
@@ -41,29 +33,18 @@ public final class DoingTest {
         due.is(what + ": end of list " + list, x.listed(list, want.length), NONE);
     }
 
-    /** The number of the move with these i and j. */
-    private static int at(MoveMakers x, int source, int i, int j) {
-        int many = x.many(source);
-        for (int m = 0; m < many; m++) {
-            if (x.move(source, m, 1) == i && x.move(source, m, 2) == j) {
-                return m;
-            }
-        }
-        return -1;
-    }
-
     private static void doOne(String what, MoveMakers x, int i, int j) {
         int before = x.digest();
-        due.is(what, x.does(0, at(x, 0, i, j)), 1);
+        due.is(what, x.does(0, Scene.at(x, 0, i, j)), 1);
         int after = x.digest();
         due.is(what + " undone", x.undo(), 0);
         due.is(what + " is as it was", x.digest(), before);
-        x.does(0, at(x, 0, i, j));
+        x.does(0, Scene.at(x, 0, i, j));
         due.is(what + " again", x.digest(), after);
     }
 
     private static MoveMakers valuesAnd(int sort, int a) {
-        MoveMakers x = withValues(2, 3, 2, 5);
+        MoveMakers x = Scene.values(2, 3, 2, 5);
         x.source(sort, a, 0);
         return x;
     }
@@ -142,48 +123,42 @@ public final class DoingTest {
         list("turn, the other", x, 1, 5, 6, 7);
     }
 
-    private static MoveMakers ownOf(int sort, int... values) {
-        MoveMakers x = withValues(values);
-        x.source(10, sort, 0);
-        return x;
-    }
-
     private static void doesOwn() {
         int[] shared = {0, 5, 2, 1, 1, 1};
         for (int v = 0; v < 6; v++) {
-            MoveMakers x = ownOf(0, 4, v);
+            MoveMakers x = Scene.own(0, 4, v);
             doOne("up", x, 1, 0);
             values("up " + v, x, 4, (v + 1) % 6);
-            x = ownOf(1, 4, v);
+            x = Scene.own(1, 4, v);
             due.is("lazy", x.does(0, 1), 1);
             values("lazy " + v, x, 4, (v + 1) % 6);
             if (v > 0) {
-                x = ownOf(2, 4, v);
+                x = Scene.own(2, 4, v);
                 doOne("shared", x, 1, 0);
                 values("shared " + v, x, 4, shared[v]);
-                x = ownOf(5, 4, v);
+                x = Scene.own(5, 4, v);
                 doOne("cousin", x, 1, 0);
                 values("cousin " + v, x, 5, v - 1);
-                x = ownOf(5, v, 4);
+                x = Scene.own(5, v, 4);
                 doOne("cousin of 0", x, 0, 0);
                 values("cousin of 0, " + v, x, v - 1, 4);
             }
             if (v > 1) {
-                x = ownOf(4, 4, v);
+                x = Scene.own(4, 4, v);
                 doOne("short", x, 1, 0);
                 values("short " + v, x, 4, v - 2);
             }
         }
-        MoveMakers x = ownOf(3, 4, 2, 1, 3);
+        MoveMakers x = Scene.own(3, 4, 2, 1, 3);
         doOne("far", x, 1, 0);
         values("far", x, 0, 3, 1, 3);
-        x = ownOf(3, 4, 0, 1, 3);
+        x = Scene.own(3, 4, 0, 1, 3);
         doOne("far, itself", x, 1, 0);
         values("far, itself", x, 0, 0, 1, 3);
-        x = ownOf(3, 2, 0, 1, 3);
+        x = Scene.own(3, 2, 0, 1, 3);
         doOne("far of 0", x, 0, 0);
         values("far of 0", x, 1, 0, 1, 3);
-        x = ownOf(3, 0, 5);
+        x = Scene.own(3, 0, 5);
         doOne("far of 0, itself", x, 0, 0);
         values("far of 0, itself", x, 0, 5);
     }
@@ -198,17 +173,17 @@ public final class DoingTest {
     }
 
     private static void throwing() {
-        throwsOne("shared 0", ownOf(2, 4, 0), 1, -7, 4, 0);
-        throwsOne("far", ownOf(3, 4, 1), 1, -4, 4, 1);
-        throwsOne("far of 0", ownOf(3, 2, 1), 0, -4, 2, 1);
-        throwsOne("short 0", ownOf(4, 4, 0), 1, -5, 4, 0);
-        throwsOne("short 1", ownOf(4, 4, 1), 1, -5, 4, 1);
-        throwsOne("cousin 0", ownOf(5, 4, 0), 1, -2, 4, 0);
-        throwsOne("cousin of 0", ownOf(5, 0, 3), 0, -2, 0, 3);
+        throwsOne("shared 0", Scene.own(2, 4, 0), 1, -7, 4, 0);
+        throwsOne("far", Scene.own(3, 4, 1), 1, -4, 4, 1);
+        throwsOne("far of 0", Scene.own(3, 2, 1), 0, -4, 2, 1);
+        throwsOne("short 0", Scene.own(4, 4, 0), 1, -5, 4, 0);
+        throwsOne("short 1", Scene.own(4, 4, 1), 1, -5, 4, 1);
+        throwsOne("cousin 0", Scene.own(5, 4, 0), 1, -2, 4, 0);
+        throwsOne("cousin of 0", Scene.own(5, 0, 3), 0, -2, 0, 3);
     }
 
     private static void room() {
-        MoveMakers x = ownOf(0, 0, 0);
+        MoveMakers x = Scene.own(0, 0, 0);
         x.source(10, 2, 0);
         for (int n = 1; n <= 30; n++) {
             due.is("does " + n, x.does(0, 0), n);
@@ -262,7 +237,7 @@ public final class DoingTest {
     }
 
     private static void undoWithNewObjects() {
-        MoveMakers x = ownOf(1, 3);
+        MoveMakers x = Scene.own(1, 3);
         x.source(0, 0, 0);
         due.is("change of 0 to 5", x.does(1, 4), 1);
         x.object(0, 0, 0);
@@ -275,7 +250,7 @@ public final class DoingTest {
     }
 
     private static void undoAndPins() {
-        MoveMakers x = ownOf(0, 3);
+        MoveMakers x = Scene.own(0, 3);
         x.does(0, 0);
         x.pin(0, true);
         due.is("pinned ones are undone all the same", x.undo(), 0);
@@ -285,12 +260,12 @@ public final class DoingTest {
 
     private static void lazyUndo() {
         for (int v = 0; v < 6; v++) {
-            MoveMakers x = ownOf(1, 4, v);
+            MoveMakers x = Scene.own(1, 4, v);
             x.does(0, 1);
             due.is("undo of lazy", x.undo(), 0);
             values("lazy " + v, x, 4, v == 0 ? 1 : v);
         }
-        MoveMakers twice = ownOf(1, 5);
+        MoveMakers twice = Scene.own(1, 5);
         twice.does(0, 0);
         twice.does(0, 0);
         values("two of them", twice, 1);
@@ -298,7 +273,7 @@ public final class DoingTest {
         values("the second: 1 stays", twice, 1);
         twice.undo();
         values("the first: 1 stays too", twice, 1);
-        MoveMakers joined = ownOf(1, 0);
+        MoveMakers joined = Scene.own(1, 0);
         joined.source(9, 0, 0);
         joined.source(8, 1, 1);
         joined.does(2, 1);
@@ -308,7 +283,7 @@ public final class DoingTest {
     }
 
     private static void lazyAmongOthers() {
-        MoveMakers x = ownOf(1, 3, 0);
+        MoveMakers x = Scene.own(1, 3, 0);
         x.source(0, 0, 0);
         x.does(1, 0);
         x.does(0, 1);
@@ -316,7 +291,7 @@ public final class DoingTest {
         values("forgotten", x, 0, 1);
         x.undo();
         values("undoing another one brings all back", x, 3, 0);
-        x = ownOf(1, 3, 0);
+        x = Scene.own(1, 3, 0);
         x.does(0, 0);
         x.does(0, 1);
         x.undo();
@@ -329,22 +304,22 @@ public final class DoingTest {
             due.is("judge with no objects", new MoveMakers().judge(sort), 0);
         }
         for (int bad : new int[] {-1, 6, NONE, Integer.MAX_VALUE, Integer.MIN_VALUE}) {
-            due.is("judge of no sort", withValues(0).judge(bad), OUTSIDE);
+            due.is("judge of no sort", Scene.values(0).judge(bad), OUTSIDE);
         }
-        due.is("up", withValues(0, 1, 5).judge(0), 0);
-        due.is("lazy, none of 0", withValues(1, 2, 3, 4, 5).judge(1), 0);
-        due.is("lazy, the first of 0", withValues(1, 0, 0).judge(1), 2);
-        due.is("shared", withValues(1, 5).judge(2), 0);
-        due.is("shared, one of 0", withValues(1, 0).judge(2), -7);
-        due.is("far", withValues(1, 0, 0).judge(3), 0);
-        due.is("far: as it was behind each", withValues(2, 1, 0).judge(3), 0);
-        due.is("far, too far", withValues(1, 0, 1).judge(3), -4);
-        due.is("short", withValues(2, 5).judge(4), 0);
-        due.is("short, one of 1", withValues(2, 1).judge(4), -5);
-        due.is("cousin", withValues(1, 5).judge(5), 0);
-        due.is("cousin: as it was behind each", withValues(0, 5).judge(5), -2);
-        due.is("cousin, one of 0", withValues(1, 0).judge(5), -2);
-        MoveMakers x = withValues(1, 0);
+        due.is("up", Scene.values(0, 1, 5).judge(0), 0);
+        due.is("lazy, none of 0", Scene.values(1, 2, 3, 4, 5).judge(1), 0);
+        due.is("lazy, the first of 0", Scene.values(1, 0, 0).judge(1), 2);
+        due.is("shared", Scene.values(1, 5).judge(2), 0);
+        due.is("shared, one of 0", Scene.values(1, 0).judge(2), -7);
+        due.is("far", Scene.values(1, 0, 0).judge(3), 0);
+        due.is("far: as it was behind each", Scene.values(2, 1, 0).judge(3), 0);
+        due.is("far, too far", Scene.values(1, 0, 1).judge(3), -4);
+        due.is("short", Scene.values(2, 5).judge(4), 0);
+        due.is("short, one of 1", Scene.values(2, 1).judge(4), -5);
+        due.is("cousin", Scene.values(1, 5).judge(5), 0);
+        due.is("cousin: as it was behind each", Scene.values(0, 5).judge(5), -2);
+        due.is("cousin, one of 0", Scene.values(1, 0).judge(5), -2);
+        MoveMakers x = Scene.values(1, 0);
         x.pin(0, true);
         x.pin(1, true);
         due.is("pinned ones, too", x.judge(1), 2);
@@ -353,7 +328,7 @@ public final class DoingTest {
     }
 
     private static void judgeLeavesAll() {
-        MoveMakers x = ownOf(0, 0, 3, 1);
+        MoveMakers x = Scene.own(0, 0, 3, 1);
         x.enlist(1, 2);
         x.does(0, 1);
         int before = x.digest();

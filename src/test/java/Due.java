@@ -1,3 +1,6 @@
+import java.util.function.Supplier;
+import java.util.function.ToIntFunction;
+
 /** Compares answers with those that are due, and prints each one that is not. */
 final class Due {
     private final String test;
@@ -22,6 +25,21 @@ final class Due {
             wrong++;
             System.out.println(test + ": does not hold: " + what);
         }
+    }
+
+    void same(String what, String got, String want) {
+        asked++;
+        if (!got.equals(want)) {
+            wrong++;
+            System.out.println(test + ": " + what + " is " + got + ", due is " + want);
+        }
+    }
+
+    /** A call that is refused answers so, and changes nothing. */
+    void refused(String call, Supplier<MoveMakers> scene, ToIntFunction<MoveMakers> made, int want) {
+        MoveMakers x = scene.get();
+        is(call, made.applyAsInt(x), want);
+        same("behind " + call + " all", Scene.picture(x), Scene.picture(scene.get()));
     }
 
     boolean isClean() {

@@ -2,13 +2,15 @@ import java.util.Random;
 
 /** Long random runs, the same each time: every answer is compared with the plain model's. */
 public final class RandomRunsTest {
-    private static final int RUNS = 400, CALLS = 512, NONE = -109;
+    /** What an object answers behind its 512th call is free; the last hundred calls look at the moves. */
+    private static final int RUNS = 2000, CALLS = 512, LOOKING = 100, NONE = -109;
     private static final Due due = new Due("RandomRunsTest");
 
     private final Random random;
     private final MoveMakers x = new MoveMakers();
     private final Model model = new Model();
     private final int run;
+    private int calls = 0;
     /** What this run likes to do: with few pins there are more moves, with few undos more are kept. */
     private final int pinShare;
     private final int undoShare;
@@ -37,17 +39,19 @@ public final class RandomRunsTest {
                 enlist();
             }
         }
-        for (int n = 2 * objects; n < CALLS && due.isClean(); n++) {
+        while (calls < CALLS - LOOKING && due.isClean()) {
             call();
-            due.is("run " + run + " call " + n + " digest", x.digest(), model.digest());
         }
-        for (int s = 0; s < x.count(1); s++) {
-            allMoves(s);
+        is("digest", x.digest(), model.digest());
+        int sources = model.count(1);
+        for (int s = 0; s < sources; s++) {
+            someMoves((s + run) % sources);
         }
     }
 
     private void is(String call, int got, int want) {
-        due.is("run " + run + ": " + call, got, want);
+        calls++;
+        due.is("run " + run + ", call " + calls + ": " + call, got, want);
     }
 
     /** Mostly a number from 0 to below bound, at times one that is not. */
@@ -80,7 +84,9 @@ public final class RandomRunsTest {
             is("undo", x.undo(), model.undo());
         } else {
             ask();
+            return;
         }
+        is("digest", x.digest(), model.digest());
     }
 
     private void object() {
@@ -91,13 +97,13 @@ public final class RandomRunsTest {
     }
 
     private void enlist() {
-        int object = about(x.count(0));
+        int object = about(model.count(0));
         int list = random.nextInt(12) == 0 ? NONE : about(random.nextBoolean() ? 2 : 4);
         is("enlist", x.enlist(object, list), model.enlist(object, list));
     }
 
     private void pin() {
-        int object = about(x.count(0));
+        int object = about(model.count(0));
         boolean on = random.nextInt(3) == 0;
         is("pin", x.pin(object, on), model.pin(object, on));
     }
@@ -107,8 +113,8 @@ public final class RandomRunsTest {
         int a;
         int b;
         if (sort == 8 || sort == 9) {
-            a = about(x.count(1));
-            b = sort == 8 ? about(x.count(1)) : about(3);
+            a = about(model.count(1));
+            b = sort == 8 ? about(model.count(1)) : about(3);
         } else if (sort == 7) {
             a = 1 + about(15);
             b = random.nextInt();
@@ -121,7 +127,7 @@ public final class RandomRunsTest {
         }
         is("source " + sort + " " + a + " " + b, x.source(sort, a, b), model.source(sort, a, b));
         if (sort == 8 || random.nextInt(10) == 0) {
-            int s = sort == 8 ? x.count(1) - 1 : about(x.count(1));
+            int s = sort == 8 ? model.count(1) - 1 : about(model.count(1));
             int p = about(random.nextBoolean() ? 5 : 101);
             int q = about(random.nextBoolean() ? 5 : 101);
             is("shares", x.shares(s, p, q), model.shares(s, p, q));
@@ -129,36 +135,55 @@ public final class RandomRunsTest {
     }
 
     private void does() {
-        int source = about(x.count(1));
-        int m = about(x.many(source));
+        int source = about(model.count(1));
+        int m = about(model.many(source));
         is("does " + source + " " + m, x.does(source, m), model.does(source, m));
     }
 
     private void ask() {
-        int object = about(x.count(0));
-        int source = about(x.count(1));
+        int object = about(model.count(0));
+        int source = about(model.count(1));
         int what = about(5);
-        int list = about(4);
-        int place = about(16);
-        is("objectAt", x.objectAt(object, what), model.objectAt(object, what));
-        is("listed", x.listed(list, place), model.listed(list, place));
-        is("many", x.many(source), model.many(source));
-        int m = about(x.many(source));
-        is("move", x.move(source, m, what), model.move(source, m, what));
-        long n = random.nextInt(3) == 0 ? random.nextLong() : random.nextInt(1000);
-        is("drawn", x.drawn(source, n), model.drawn(source, n));
-        is("judge", x.judge(what), model.judge(what));
-        is("count", x.count(what), model.count(what));
-        if (random.nextInt(300) == 0) {
-            is("clear", x.clear(), model.clear());
+        switch (random.nextInt(7)) {
+            case 0:
+                is("objectAt", x.objectAt(object, what), model.objectAt(object, what));
+                break;
+            case 1:
+                int list = about(4);
+                int place = about(16);
+                is("listed", x.listed(list, place), model.listed(list, place));
+                break;
+            case 2:
+                is("many", x.many(source), model.many(source));
+                break;
+            case 3:
+                int m = about(model.many(source));
+                is("move", x.move(source, m, what), model.move(source, m, what));
+                break;
+            case 4:
+                long n = random.nextInt(3) == 0 ? random.nextLong() : random.nextInt(1000);
+                is("drawn", x.drawn(source, n), model.drawn(source, n));
+                break;
+            case 5:
+                is("judge", x.judge(what), model.judge(what));
+                break;
+            default:
+                is("count", x.count(what), model.count(what));
+                if (random.nextInt(40) == 0) {
+                    is("clear", x.clear(), model.clear());
+                }
+                break;
         }
     }
 
-    private void allMoves(int source) {
-        int many = x.many(source);
-        is("many", many, model.many(source));
-        // about forty of them: the model lists all its moves anew for each question
-        for (int m = 0; m <= many; m += 1 + many / 40) {
+    /** How many, and some of them with what lies behind the last, as long as calls are left. */
+    private void someMoves(int source) {
+        if (calls + 25 > CALLS) {
+            return;
+        }
+        int many = model.many(source);
+        is("many", x.many(source), many);
+        for (int m = 0; m <= many; m += 1 + many / 5) {
             for (int what = 0; what < 4; what++) {
                 is("move " + m, x.move(source, m, what), model.move(source, m, what));
             }

@@ -28,39 +28,15 @@ public final class SourcesTest {
         due.end();
     }
 
-    /** All moves of a source as text: "i,j i,j .." behind its sort. */
+    /** All moves of a source, "i,j i,j ..", and the sort of each. */
     private static void moves(String what, MoveMakers x, int source, int sort, String want) {
-        StringBuilder got = new StringBuilder();
+        due.same(what + ": moves", Scene.moves(x, source), want);
         int many = x.many(source);
         for (int m = 0; m < many; m++) {
-            got.append(m == 0 ? "" : " ").append(x.move(source, m, 1)).append(',').append(x.move(source, m, 2));
             due.is(what + " sort", x.move(source, m, 0), sort);
             due.is(what + " k", x.move(source, m, 3), 0);
         }
-        due.holds(what + ": " + got + ", due is " + want, got.toString().equals(want));
         due.is(what + " behind the last", x.move(source, many, 1), UNKNOWN);
-    }
-
-    private static MoveMakers withValues(int... values) {
-        MoveMakers x = new MoveMakers();
-        for (int value : values) {
-            x.object(value, 0, 0);
-        }
-        return x;
-    }
-
-    /** Objects as they come, a list each of the given lengths. */
-    private static MoveMakers withLists(int... lengths) {
-        MoveMakers x = new MoveMakers();
-        int object = 0;
-        for (int list = 0; list < lengths.length; list++) {
-            for (int place = 0; place < lengths[list]; place++) {
-                x.object(0, 0, 0);
-                x.enlist(object, list);
-                object++;
-            }
-        }
-        return x;
     }
 
     private static void source() {
@@ -111,7 +87,7 @@ public final class SourcesTest {
     }
 
     private static void shares() {
-        MoveMakers x = withValues(0);
+        MoveMakers x = Scene.values(0);
         x.source(0, 0, 0);
         x.source(8, 0, 0);
         x.source(9, 0, 0);
@@ -131,7 +107,7 @@ public final class SourcesTest {
     }
 
     private static void wrongInputs() {
-        MoveMakers x = withValues(0);
+        MoveMakers x = Scene.values(0);
         x.source(10, 0, 0);
         due.is("no such source", x.many(1), UNKNOWN);
         for (int bad : WRONG) {
@@ -153,22 +129,16 @@ public final class SourcesTest {
     }
 
     private static void changes() {
-        MoveMakers x = withValues(1, 5, 0);
+        MoveMakers x = Scene.values(1, 5, 0);
         x.source(0, 0, 0);
         moves("change", x, 0, 0, "0,0 0,2 0,3 0,4 0,5 1,0 1,1 1,2 1,3 1,4 2,1 2,2 2,3 2,4 2,5");
         x.pin(1, true);
         moves("change, one pinned", x, 0, 0, "0,0 0,2 0,3 0,4 0,5 2,1 2,2 2,3 2,4 2,5");
-        moves("change of nothing", withSource(0, 0, 0), 0, 0, "");
-    }
-
-    private static MoveMakers withSource(int sort, int a, int b) {
-        MoveMakers x = new MoveMakers();
-        x.source(sort, a, b);
-        return x;
+        moves("change of nothing", Scene.with(new MoveMakers(), 0, 0, 0), 0, 0, "");
     }
 
     private static void swaps() {
-        MoveMakers x = withValues(1, 2, 1, 3);
+        MoveMakers x = Scene.values(1, 2, 1, 3);
         x.source(1, 0, 0);
         moves("swap", x, 0, 1, "0,1 0,3 1,2 1,3 2,3");
         x.pin(0, true);
@@ -178,12 +148,12 @@ public final class SourcesTest {
     }
 
     private static void pillars() {
-        MoveMakers x = withValues(4, 0, 4, 2);
+        MoveMakers x = Scene.values(4, 0, 4, 2);
         x.source(2, 0, 0);
         moves("pillar", x, 0, 2, "0,1 0,2 0,3 0,4 0,5 2,0 2,1 2,3 2,4 2,5 4,0 4,1 4,2 4,3 4,5");
         x.pin(2, true);
         moves("pillar, one of it pinned", x, 0, 2, "0,1 0,2 0,3 0,4 0,5 2,0 2,1 2,3 2,4 2,5");
-        MoveMakers one = withValues(5, 0);
+        MoveMakers one = Scene.values(5, 0);
         one.source(2, 0, 0);
         moves("pillar of 5", one, 0, 2, "0,1 0,2 0,3 0,4 0,5 5,0 5,1 5,2 5,3 5,4");
         one.pin(0, true);
@@ -191,7 +161,7 @@ public final class SourcesTest {
     }
 
     private static void insertsWithin() {
-        MoveMakers x = withLists(0, 4);
+        MoveMakers x = Scene.lists(0, 4);
         x.source(3, 1, 1);
         moves("insert within", x, 0, 3, "0,1 0,2 0,3 1,0 1,2 1,3 2,0 2,1 2,3 3,0 3,1 3,2");
         x.pin(1, true);
@@ -205,7 +175,7 @@ public final class SourcesTest {
     }
 
     private static void insertsBetween() {
-        MoveMakers x = withLists(2, 1);
+        MoveMakers x = Scene.lists(2, 1);
         x.source(3, 0, 1);
         x.source(3, 1, 0);
         x.source(3, 0, 3);
@@ -221,22 +191,16 @@ public final class SourcesTest {
     }
 
     private static void reverses() {
-        MoveMakers x = withLists(4);
+        MoveMakers x = Scene.lists(4);
         x.source(4, 0, 0);
         moves("reverse", x, 0, 4, "0,1 0,2 0,3 1,2 1,3 2,3");
         x.pin(1, true);
         moves("reverse, 1 pinned (also in the middle)", x, 0, 4, "2,3");
-        moves("reverse of one", reverseOfOne(), 0, 4, "");
-    }
-
-    private static MoveMakers reverseOfOne() {
-        MoveMakers x = withLists(1);
-        x.source(4, 0, 0);
-        return x;
+        moves("reverse of one", Scene.with(Scene.lists(1), 4, 0, 0), 0, 4, "");
     }
 
     private static void crosses() {
-        MoveMakers x = withLists(2, 1);
+        MoveMakers x = Scene.lists(2, 1);
         x.source(5, 0, 1);
         x.source(5, 2, 3);
         moves("cross", x, 0, 5, "0,0 0,1 1,0 1,1 2,0");
@@ -250,7 +214,7 @@ public final class SourcesTest {
     }
 
     private static void turns() {
-        MoveMakers x = withLists(4, 1);
+        MoveMakers x = Scene.lists(4, 1);
         x.source(6, 0, 0);
         x.source(6, 1, 0);
         x.source(6, 2, 0);
@@ -285,7 +249,7 @@ public final class SourcesTest {
 
     private static void owns() {
         for (int sort = 0; sort < 6; sort++) {
-            MoveMakers x = withValues(0, 1, 2);
+            MoveMakers x = Scene.values(0, 1, 2);
             x.source(10, sort, 0);
             moves("own " + sort, x, 0, 10, "0,0 1,0 2,0");
             x.pin(1, true);
@@ -297,7 +261,7 @@ public final class SourcesTest {
     }
 
     private static void joinedAndFiltered() {
-        MoveMakers x = withValues(1, 2);
+        MoveMakers x = Scene.values(1, 2);
         x.source(0, 0, 0);
         x.source(10, 0, 0);
         x.source(8, 1, 0);
@@ -323,7 +287,7 @@ public final class SourcesTest {
     }
 
     private static void movesAreAsThingsAreThen() {
-        MoveMakers x = withValues(1, 1);
+        MoveMakers x = Scene.values(1, 1);
         x.source(1, 0, 0);
         x.source(0, 0, 0);
         due.is("alike", x.many(0), 0);
@@ -336,7 +300,7 @@ public final class SourcesTest {
     }
 
     private static void sixteenObjects() {
-        MoveMakers x = withLists(16);
+        MoveMakers x = Scene.lists(16);
         int[][] sources = {{0, 0, 0}, {1, 0, 0}, {2, 0, 0}, {3, 0, 0}, {3, 0, 1}, {3, 1, 0}, {4, 0, 0}, {5, 0, 1},
             {6, 0, 0}, {7, 15, 0}, {10, 3, 0}, {8, 0, 3}};
         int[] alike = {80, 0, 5, 240, 16, 0, 120, 16, 15, 0, 16, 320};
@@ -366,7 +330,7 @@ public final class SourcesTest {
     }
 
     private static void nothingIsLeftOfWhatWasCleared() {
-        MoveMakers x = withLists(8, 8);
+        MoveMakers x = Scene.lists(8, 8);
         for (int o = 0; o < 16; o++) {
             x.pin(o, true);
         }
@@ -385,7 +349,7 @@ public final class SourcesTest {
     }
 
     private static void drawn() {
-        MoveMakers x = withValues(0, 1);
+        MoveMakers x = Scene.values(0, 1);
         x.source(0, 0, 0);
         x.source(10, 0, 0);
         x.source(2, 0, 0);
@@ -405,7 +369,7 @@ public final class SourcesTest {
     }
 
     private static void drawnDeep() {
-        MoveMakers x = withValues(0, 0);
+        MoveMakers x = Scene.values(0, 0);
         x.source(1, 0, 0);
         x.source(10, 0, 0);
         x.source(8, 0, 1);
