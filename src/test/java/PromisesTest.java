@@ -612,6 +612,7 @@ public final class PromisesTest {
         for (int o = 0; o < 16; o++) {
             due.is("room for object " + o, x.object(0, 0, 0), o);
             due.is("in no list", x.objectAt(o, 1), NONE);
+            due.is("at no place", x.objectAt(o, 2), NONE);
             due.is("into a list, nothing being kept", x.enlist(o, 0), 1);
         }
         for (int s = 0; s < 12; s++) {
@@ -620,12 +621,14 @@ public final class PromisesTest {
         for (int n = 1; n <= 30; n++) {
             due.is("room for move " + n, x.does(0, 0), n);
         }
-        clearOfPinsAndShares();
+        clearOfPinsSharesAndThrows();
     }
 
-    private static void clearOfPinsAndShares() {
+    private static void clearOfPinsSharesAndThrows() {
         MoveMakers x = Scene.idle();
+        due.is("one threw", x.count(4), 1);
         x.clear();
+        due.is("none threw", x.count(4), 0);
         for (int o = 0; o < 5; o++) {
             x.object(1, 0, 0);
             due.is("not pinned", x.objectAt(o, 3), 0);

@@ -197,8 +197,8 @@ public final class TermsTest {
     }
 
     private static final int[][] ALL_SORTS = {{0, 0, 0}, {1, 0, 0}, {2, 0, 0}, {3, 0, 1}, {3, 1, 0}, {3, 0, 0}, {3, 0, 2},
-        {4, 0, 0}, {5, 0, 1}, {5, 1, 2}, {6, 0, 0}, {7, 1, 0}, {7, 15, 0}, {10, 0, 0}, {10, 1, 0}, {10, 2, 0}, {10, 3, 0},
-        {10, 4, 0}, {10, 5, 0}};
+        {4, 0, 0}, {4, 1, 0}, {5, 0, 1}, {5, 1, 2}, {6, 0, 0}, {6, 1, 0}, {7, 1, 0}, {7, 15, 0}, {10, 0, 0}, {10, 1, 0},
+        {10, 2, 0}, {10, 3, 0}, {10, 4, 0}, {10, 5, 0}};
 
     private static void pins() {
         for (int[] source : ALL_SORTS) {
@@ -207,7 +207,7 @@ public final class TermsTest {
             }
         }
         int[][] whollyTold = {{0, 0, 0}, {1, 0, 0}, {2, 0, 0}, {3, 0, 1}, {3, 1, 0}, {3, 0, 0}, {3, 0, 2}, {5, 0, 1},
-            {5, 1, 2}, {6, 0, 0}};
+            {5, 1, 2}, {6, 0, 0}, {6, 1, 0}};
         for (int[] source : whollyTold) {
             for (int bits = 0; bits < 64; bits++) {
                 allOtherMovesAreListed(bits, source);
@@ -385,6 +385,10 @@ public final class TermsTest {
         moves("one value is left", x, 0, "0,1 0,2 0,3 0,4 0,5");
         x.undo();
         values("none but them comes back", x, "5 5 0");
+        MoveMakers sixteen = Scene.with(Scene.values(3, 3, 3, 3, 3, 3, 3, 3, 3, 3, 3, 3, 3, 3, 3, 3), 2, 0, 0);
+        moves("sixteen of one value", sixteen, 0, "3,0 3,1 3,2 3,4 3,5");
+        due.is("sixteen of one value", sixteen.does(0, 4), 1);
+        values("sixteen of one value", sixteen, "5 5 5 5 5 5 5 5 5 5 5 5 5 5 5 5");
     }
 
     /** "none of them PINNED" */
@@ -446,6 +450,7 @@ public final class TermsTest {
         crossUpToTheLengths();
         crossNotBothTheLengths();
         crossOfUnlikeLists();
+        crossNoneGetsMoreThan16();
         turnByLessThanTheLength();
     }
 
@@ -494,6 +499,21 @@ public final class TermsTest {
         for (int list = 0; list < 4; list++) {
             int same = list;
             due.refused("cross of list " + list + " and itself", Scene::busy, x -> x.source(5, same, same), OUTSIDE);
+        }
+    }
+
+    /** "none gets more than 16 (this can't be)" */
+    private static void crossNoneGetsMoreThan16() {
+        int many = Scene.with(Scene.lists(8, 8), 5, 0, 1).many(0);
+        due.is("of eight and eight", many, 80);
+        for (int m = 0; m < many; m++) {
+            MoveMakers x = Scene.with(Scene.lists(8, 8), 5, 0, 1);
+            int lengthA = x.move(0, m, 1) + 8 - x.move(0, m, 2);
+            x.does(0, m);
+            due.holds("a has a last one", lengthA == 0 || x.listed(0, lengthA - 1) != NONE);
+            due.is("and no more", x.listed(0, lengthA), NONE);
+            due.holds("b has the others", lengthA == 16 || x.listed(1, 15 - lengthA) != NONE);
+            due.is("and no more", x.listed(1, 16 - lengthA), NONE);
         }
     }
 
@@ -690,7 +710,7 @@ public final class TermsTest {
         values(what, x, want);
     }
 
-    /** "UP: its VALUE is one more, 0 behind 5. LAZY: likewise" */
+    /** "0 UP: its VALUE is one more, 0 behind 5. 1 LAZY: likewise" */
     private static void upBehind5() {
         for (int a = 0; a < 2; a++) {
             doneTo("4 up", Scene.own(a, 4), 0, "5");
@@ -932,6 +952,8 @@ public final class TermsTest {
 
     private static void draws() {
         drawnByN();
+        drawnOfOne();
+        drawnThreeDeep();
         sharesBelowP();
         sharesAtFirst();
         greatestSharesAndNumbers();
@@ -950,6 +972,34 @@ public final class TermsTest {
         due.refused("drawn by -1", Scene::busy, y -> y.drawn(0, -1), OUTSIDE);
         due.refused("drawn by the least", Scene::busy, y -> y.drawn(0, Long.MIN_VALUE), OUTSIDE);
         due.refused("drawn by less than an int", Scene::busy, y -> y.drawn(0, -4294967296L), OUTSIDE);
+    }
+
+    /** The same of a source that has one move. */
+    private static void drawnOfOne() {
+        MoveMakers x = Scene.own(0, 2);
+        x.source(8, 0, 0);
+        x.source(9, 1, 0);
+        for (long n : new long[] {0, 1, 2, 3, Long.MAX_VALUE}) {
+            due.is("the only one by " + n, x.drawn(0, n), 0);
+            due.is("the only one of each, joined, by " + n, x.drawn(1, n), n % 2);
+            due.is("both, filtered, by " + n, x.drawn(2, n), n % 2);
+        }
+    }
+
+    /** The same as deep as a source can be: shares of 1 tell a number's digits by two. */
+    private static void drawnThreeDeep() {
+        MoveMakers x = Scene.with(Scene.own(0, 2), 1, 0, 0);
+        x.source(8, 0, 0);
+        x.source(8, 2, 2);
+        x.source(8, 3, 3);
+        x.source(8, 1, 0);
+        x.source(8, 5, 1);
+        x.source(8, 1, 6);
+        int[] want = {0, 4, 2, 6, 1, 5, 3, 7};
+        for (int n = 0; n < 16; n++) {
+            due.is("three deep by " + n, x.drawn(4, n), want[n % 8]);
+            due.is("three deep, past those that have none, by " + n, x.drawn(7, n), 0);
+        }
     }
 
     /** Source 2 joins ten changes and two ups. */
