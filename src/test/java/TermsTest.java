@@ -98,7 +98,8 @@ public final class TermsTest {
 
     private static void refusalsAheadOfNone() {
         due.refused("listed(4, 16)", Scene::busy, x -> x.listed(4, 16), UNKNOWN);
-        due.refused("drawn by -1 where there are none", () -> Scene.with(new MoveMakers(), 0, 0, 0), x -> x.drawn(0, -1), OUTSIDE);
+        due.refused("drawn by -1 where there are none", () -> Scene.with(new MoveMakers(), 0, 0, 0),
+            x -> x.drawn(0, -1), OUTSIDE);
     }
 
     private static void terms1() {
