@@ -143,7 +143,7 @@ public final class MoveMakers {
         if (!sources.has(source)) {
             return UNKNOWN;
         }
-        return n < 0 ? OUTSIDE : drawFrom(source, n, 0);
+        return n < 0 ? OUTSIDE : drawFrom(source, n);
     }
 
     public int does(int source, int m) {
@@ -261,34 +261,28 @@ public final class MoveMakers {
         }
     }
 
-    private int drawFrom(int source, long n, int depth) {
-        if (depth > MOST_DEEP) {
-            return NONE;
+    /** A draw takes one side of each JOINED SOURCE, so it is a way down to a SOURCE that is none; no tree is walked. */
+    private int drawFrom(int source, long n) {
+        int from = source;
+        long by = n;
+        int ahead = 0;
+        for (int depth = 0; depth < MOST_DEEP && sources.sortOf(from) == JOINED; depth++) {
+            int movesOfA = finder.tally(sources.aOf(from));
+            int movesOfB = finder.tally(sources.bOf(from));
+            boolean toB = movesOfA == 0;
+            if (movesOfA > 0 && movesOfB > 0) {
+                int p = sources.pOf(from);
+                int parts = Math.max(1, p + sources.qOf(from));
+                toB = by % parts >= p;
+                by = by / parts;
+            }
+            if (toB) {
+                ahead += movesOfA;
+            }
+            from = toB ? sources.bOf(from) : sources.aOf(from);
         }
-        if (sources.sortOf(source) == JOINED) {
-            return drawJoined(source, n, depth);
-        }
-        int moves = finder.tally(source);
-        return moves <= 0 ? NONE : (int) (n % moves);
-    }
-
-    private int drawJoined(int source, long n, int depth) {
-        int a = sources.aOf(source);
-        int b = sources.bOf(source);
-        int ahead = finder.tally(a);
-        if (ahead == 0) {
-            return drawFrom(b, n, depth + 1);
-        }
-        if (finder.tally(b) == 0) {
-            return drawFrom(a, n, depth + 1);
-        }
-        int p = sources.pOf(source);
-        int parts = Math.max(1, p + sources.qOf(source));
-        if (n % parts < p) {
-            return drawFrom(a, n / parts, depth + 1);
-        }
-        int behind = drawFrom(b, n / parts, depth + 1);
-        return behind == NONE ? NONE : ahead + behind;
+        int moves = finder.tally(from);
+        return moves <= 0 ? NONE : ahead + (int) (by % moves);
     }
 
     /** Does the MOVE that the finder holds, and keeps it unless it throws. */
@@ -689,7 +683,7 @@ public final class MoveMakers {
         private final Sources sources;
         private int wanted;
         private int seen;
-        /** The SOURCE whose own MOVES are offered now, and which (i + j + k) % 3 its filters let through, a bit each. */
+        /** The SOURCE whose own MOVES are offered now, and what of (i + j + k) % 3 passes its filters, a bit each. */
         private int offering;
         private int residues;
         private int foundSource;
